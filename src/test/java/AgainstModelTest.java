@@ -1,4 +1,4 @@
-import java.util.function.IntSupplier;
+import java.util.function.ToIntFunction;
 
 /** All promises: runs of 512 calls, right and wrong ones mixed, each answered as the model answers. */
 public final class AgainstModelTest {
@@ -16,8 +16,8 @@ public final class AgainstModelTest {
     };
 
     private long seed;
-    private EphemeronHeap heap;
-    private Model model;
+    private Face heap;
+    private Face model;
     private int wrong;
 
     public static void main(String[] args) {
@@ -32,7 +32,7 @@ public final class AgainstModelTest {
 
     private void oneRun(int run) {
         seed = run * 7919L + 1;
-        heap = new EphemeronHeap();
+        heap = new HeapFace(new EphemeronHeap());
         model = new Model();
         int[] mood = MOODS[run % MOODS.length];
         for (int call = 0; call < CALLS; call++) {
@@ -98,8 +98,8 @@ public final class AgainstModelTest {
             case 3: return remove(cellOfKind(2), cell());
             case 4: return root(number(6), below(3) == 0 ? -1 : cell());
             case 5: return guard(cell(), number(4), number(6));
-            case 6: return same("collect()", () -> heap.collect(), () -> model.collect());
-            case 7: return same("run()", () -> heap.run(), () -> model.run());
+            case 6: return same("collect()", x -> x.collect());
+            case 7: return same("run()", x -> x.run());
             default: return look();
         }
     }
@@ -111,77 +111,66 @@ public final class AgainstModelTest {
             case 1: return find(cellOfKind(2), cell());
             case 2: return key(cellOfKind(2), number(4));
             case 3: return rootAt(number(6));
-            case 4: return same("queued()", () -> heap.queued(), () -> model.queued());
-            case 5: return same("used()", () -> heap.used(), () -> model.used());
-            case 6: return same("kind(" + c + ")", () -> heap.kind(c), () -> model.kind(c));
-            case 7: return same("serial(" + c + ")", () -> heap.serial(c), () -> model.serial(c));
-            default: return same("collections()", () -> heap.collections(), () -> model.collections());
+            case 4: return same("queued()", x -> x.queued());
+            case 5: return same("used()", x -> x.used());
+            case 6: return same("kind(" + c + ")", x -> x.kind(c));
+            case 7: return same("serial(" + c + ")", x -> x.serial(c));
+            default: return same("collections()", x -> x.collections());
         }
     }
 
     private boolean make(int kind) {
-        return same("make(" + kind + ")", () -> heap.make(kind), () -> model.make(kind));
+        return same("make(" + kind + ")", x -> x.make(kind));
     }
 
     private boolean set(int cell, int f, int t) {
-        return same("set(" + cell + ", " + f + ", " + t + ")", () -> {
-            heap.set(cell, f, t);
-            return 0;
-        }, () -> {
-            model.set(cell, f, t);
+        return same("set(" + cell + ", " + f + ", " + t + ")", x -> {
+            x.set(cell, f, t);
             return 0;
         });
     }
 
     private boolean get(int cell, int f) {
-        return same("get(" + cell + ", " + f + ")", () -> heap.get(cell, f), () -> model.get(cell, f));
+        return same("get(" + cell + ", " + f + ")", x -> x.get(cell, f));
     }
 
     private boolean put(int cell, int key, int value) {
-        return same("put(" + cell + ", " + key + ", " + value + ")",
-            () -> heap.put(cell, key, value) ? 1 : 0, () -> model.put(cell, key, value) ? 1 : 0);
+        return same("put(" + cell + ", " + key + ", " + value + ")", x -> x.put(cell, key, value) ? 1 : 0);
     }
 
     private boolean find(int cell, int key) {
-        return same("find(" + cell + ", " + key + ")", () -> heap.find(cell, key), () -> model.find(cell, key));
+        return same("find(" + cell + ", " + key + ")", x -> x.find(cell, key));
     }
 
     private boolean remove(int cell, int key) {
-        return same("remove(" + cell + ", " + key + ")",
-            () -> heap.remove(cell, key) ? 1 : 0, () -> model.remove(cell, key) ? 1 : 0);
+        return same("remove(" + cell + ", " + key + ")", x -> x.remove(cell, key) ? 1 : 0);
     }
 
     private boolean key(int cell, int i) {
-        return same("key(" + cell + ", " + i + ")", () -> heap.key(cell, i), () -> model.key(cell, i));
+        return same("key(" + cell + ", " + i + ")", x -> x.key(cell, i));
     }
 
     private boolean root(int r, int cell) {
-        return same("root(" + r + ", " + cell + ")", () -> {
-            heap.root(r, cell);
-            return 0;
-        }, () -> {
-            model.root(r, cell);
+        return same("root(" + r + ", " + cell + ")", x -> {
+            x.root(r, cell);
             return 0;
         });
     }
 
     private boolean rootAt(int r) {
-        return same("rootAt(" + r + ")", () -> heap.rootAt(r), () -> model.rootAt(r));
+        return same("rootAt(" + r + ")", x -> x.rootAt(r));
     }
 
     private boolean guard(int cell, int action, int r) {
-        return same("guard(" + cell + ", " + action + ", " + r + ")", () -> {
-            heap.guard(cell, action, r);
-            return 0;
-        }, () -> {
-            model.guard(cell, action, r);
+        return same("guard(" + cell + ", " + action + ", " + r + ")", x -> {
+            x.guard(cell, action, r);
             return 0;
         });
     }
 
-    private boolean same(String call, IntSupplier ofHeap, IntSupplier ofModel) {
-        String due = answer(ofModel);
-        String got = answer(ofHeap);
+    private boolean same(String call, ToIntFunction<Face> asked) {
+        String due = answer(model, asked);
+        String got = answer(heap, asked);
         if (got.equals(due)) {
             return true;
         }
@@ -190,9 +179,9 @@ public final class AgainstModelTest {
         return false;
     }
 
-    private static String answer(IntSupplier call) {
+    private static String answer(Face face, ToIntFunction<Face> call) {
         try {
-            return Integer.toString(call.getAsInt());
+            return Integer.toString(call.applyAsInt(face));
         } catch (RuntimeException e) {
             return "throws." + e.getClass().getSimpleName();
         }

@@ -1,7 +1,7 @@
 /** Promise 12: collect, without finalisers; what finalisers change is in FinaliserTest. */
 public final class CollectTest {
     private static final Check CHECK = new Check();
-    private static final int R = EphemeronHeap.RECORD, W = EphemeronHeap.WEAK, T = EphemeronHeap.TABLE;
+    private static final int R = Heaps.R, W = Heaps.W, T = Heaps.T;
 
     public static void main(String[] args) {
         recordsHold();
@@ -21,16 +21,8 @@ public final class CollectTest {
         CHECK.finish();
     }
 
-    private static EphemeronHeap heapOf(int... kinds) {
-        EphemeronHeap heap = new EphemeronHeap();
-        for (int kind : kinds) {
-            heap.make(kind);
-        }
-        return heap;
-    }
-
     private static void recordsHold() {
-        EphemeronHeap heap = heapOf(R, R, R, R, R, R);
+        EphemeronHeap heap = Heaps.of(R, R, R, R, R, R);
         heap.root(3, 2);
         heap.set(2, 0, 1);
         heap.set(2, 1, 4);
@@ -43,7 +35,7 @@ public final class CollectTest {
     }
 
     private static void ringsDoNotHoldThemselves() {
-        EphemeronHeap heap = heapOf(R, R, R, T);
+        EphemeronHeap heap = Heaps.of(R, R, R, T);
         heap.set(0, 0, 1);
         heap.set(1, 1, 0);
         heap.set(2, 2, 2);
@@ -80,7 +72,7 @@ public final class CollectTest {
     }
 
     private static void weakDoesNotHold() {
-        EphemeronHeap heap = heapOf(W, R, W);
+        EphemeronHeap heap = Heaps.of(W, R, W);
         heap.root(0, 0);
         heap.set(0, 0, 1);
         heap.set(2, 0, 0);
@@ -91,7 +83,7 @@ public final class CollectTest {
     }
 
     private static void weakOfLiveStays() {
-        EphemeronHeap heap = heapOf(W, R, R, W);
+        EphemeronHeap heap = Heaps.of(W, R, R, W);
         heap.root(0, 0);
         heap.root(1, 1);
         heap.set(1, 2, 2);
@@ -107,7 +99,7 @@ public final class CollectTest {
     }
 
     private static void tableHoldsValuesOfLiveKeys() {
-        EphemeronHeap heap = heapOf(T, R, R, R, R);
+        EphemeronHeap heap = Heaps.of(T, R, R, R, R);
         heap.root(0, 0);
         heap.root(1, 1);
         heap.put(0, 1, 2);
@@ -120,7 +112,7 @@ public final class CollectTest {
     }
 
     private static void tableDoesNotHoldKeys() {
-        EphemeronHeap heap = heapOf(T, R, R);
+        EphemeronHeap heap = Heaps.of(T, R, R);
         heap.root(0, 0);
         heap.root(1, 2);
         heap.put(0, 1, 2);
@@ -130,20 +122,20 @@ public final class CollectTest {
     }
 
     private static void valueThatHoldsItsKey() {
-        EphemeronHeap heap = heapOf(T, R, R);
+        EphemeronHeap heap = Heaps.of(T, R, R);
         heap.root(0, 0);
         heap.put(0, 1, 2);
         heap.set(2, 0, 1);
         CHECK.equal("freed", heap.collect(), 2);
         CHECK.equal("entries", Snapshot.entries(heap, 0), "");
-        heap = heapOf(T, R);
+        heap = Heaps.of(T, R);
         heap.root(0, 0);
         heap.put(0, 1, 1);
         CHECK.equal("freed, a key that is its value", heap.collect(), 1);
     }
 
     private static void keyThatIsTheTable() {
-        EphemeronHeap heap = heapOf(T, R);
+        EphemeronHeap heap = Heaps.of(T, R);
         heap.root(0, 0);
         heap.put(0, 0, 1);
         CHECK.equal("freed", heap.collect(), 0);
@@ -151,7 +143,7 @@ public final class CollectTest {
     }
 
     private static void chainOfEntries() {
-        EphemeronHeap heap = heapOf(T, R, R, R, R, R);
+        EphemeronHeap heap = Heaps.of(T, R, R, R, R, R);
         heap.root(0, 0);
         heap.root(1, 5);
         heap.put(0, 2, 1);
@@ -166,7 +158,7 @@ public final class CollectTest {
     }
 
     private static void chainOverTables() {
-        EphemeronHeap heap = heapOf(R, T, T, T, R, R);
+        EphemeronHeap heap = Heaps.of(R, T, T, T, R, R);
         heap.root(0, 0);
         heap.set(0, 0, 3);
         heap.put(3, 0, 2);
@@ -179,7 +171,7 @@ public final class CollectTest {
     }
 
     private static void twoTablesWithOneKey() {
-        EphemeronHeap heap = heapOf(T, T, R, R, R);
+        EphemeronHeap heap = Heaps.of(T, T, R, R, R);
         heap.root(0, 0);
         heap.root(1, 1);
         heap.put(0, 2, 3);
@@ -192,7 +184,7 @@ public final class CollectTest {
 
     private static void entriesGoInEachPlace() {
         for (int live = 0; live < 16; live++) {
-            EphemeronHeap heap = heapOf(T, R, R, R, R, R);
+            EphemeronHeap heap = Heaps.of(T, R, R, R, R, R);
             heap.root(5, 0);
             StringBuilder due = new StringBuilder();
             for (int i = 0; i < 4; i++) {
@@ -209,7 +201,7 @@ public final class CollectTest {
     }
 
     private static void deadTableHoldsNothing() {
-        EphemeronHeap heap = heapOf(T, R, R);
+        EphemeronHeap heap = Heaps.of(T, R, R);
         heap.root(0, 1);
         heap.put(0, 1, 2);
         CHECK.equal("freed", heap.collect(), 2);

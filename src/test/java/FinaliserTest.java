@@ -3,7 +3,7 @@ import java.util.NoSuchElementException;
 /** Promises 11, 13, 14 and 16: guard, run, queued and kind; and steps 2 and 3 of a collection. */
 public final class FinaliserTest {
     private static final Check CHECK = new Check();
-    private static final int R = EphemeronHeap.RECORD, W = EphemeronHeap.WEAK, T = EphemeronHeap.TABLE;
+    private static final int R = Heaps.R, W = Heaps.W, T = Heaps.T;
 
     public static void main(String[] args) {
         states();
@@ -28,17 +28,9 @@ public final class FinaliserTest {
         CHECK.finish();
     }
 
-    private static EphemeronHeap heapOf(int... kinds) {
-        EphemeronHeap heap = new EphemeronHeap();
-        for (int kind : kinds) {
-            heap.make(kind);
-        }
-        return heap;
-    }
-
     private static void states() {
         for (int kind = 0; kind < 3; kind++) {
-            EphemeronHeap heap = heapOf(kind);
+            EphemeronHeap heap = Heaps.of(kind);
             CHECK.equal("no finaliser", heap.kind(0), kind);
             heap.guard(0, 1, 5);
             CHECK.equal("waiting", heap.kind(0), kind + 4);
@@ -53,7 +45,7 @@ public final class FinaliserTest {
     }
 
     private static void liveThingsAreNotQueued() {
-        EphemeronHeap heap = heapOf(R, R, T, R);
+        EphemeronHeap heap = Heaps.of(R, R, T, R);
         heap.root(0, 0);
         heap.set(0, 1, 1);
         heap.set(0, 2, 2);
@@ -72,7 +64,7 @@ public final class FinaliserTest {
     }
 
     private static void queueInTheOrderOfCells() {
-        EphemeronHeap heap = heapOf(R, W, T, R, W, T);
+        EphemeronHeap heap = Heaps.of(R, W, T, R, W, T);
         for (int cell : new int[] {4, 0, 5, 2}) {
             heap.guard(cell, 0, 0);
         }
@@ -84,7 +76,7 @@ public final class FinaliserTest {
     }
 
     private static void queueIsFirstInFirstOut() {
-        EphemeronHeap heap = heapOf(R, R, R, R, R);
+        EphemeronHeap heap = Heaps.of(R, R, R, R, R);
         heap.guard(3, 0, 0);
         heap.guard(4, 0, 0);
         heap.root(0, 1);
@@ -104,7 +96,7 @@ public final class FinaliserTest {
     }
 
     private static void queuedOnce() {
-        EphemeronHeap heap = heapOf(R);
+        EphemeronHeap heap = Heaps.of(R);
         heap.guard(0, 0, 0);
         for (int i = 0; i < 3; i++) {
             CHECK.equal("freed while queued", heap.collect(), 0);
@@ -116,7 +108,7 @@ public final class FinaliserTest {
     }
 
     private static void rootedThingStaysInTheQueue() {
-        EphemeronHeap heap = heapOf(R);
+        EphemeronHeap heap = Heaps.of(R);
         heap.guard(0, 0, 0);
         heap.collect();
         heap.root(2, 0);
@@ -128,7 +120,7 @@ public final class FinaliserTest {
     }
 
     private static void queueKeeps() {
-        EphemeronHeap heap = heapOf(R, R, R, R, T, R, R);
+        EphemeronHeap heap = Heaps.of(R, R, R, R, T, R, R);
         heap.guard(1, 0, 0);
         heap.set(1, 0, 2);
         heap.set(1, 2, 4);
@@ -143,7 +135,7 @@ public final class FinaliserTest {
     }
 
     private static void weakAndQueuedThings() {
-        EphemeronHeap heap = heapOf(W, R, R, W, W, R);
+        EphemeronHeap heap = Heaps.of(W, R, R, W, W, R);
         heap.root(0, 0);
         heap.guard(1, 1, 1);
         heap.set(0, 0, 1);
@@ -165,7 +157,7 @@ public final class FinaliserTest {
     }
 
     private static void tablesAndQueuedThings() {
-        EphemeronHeap heap = heapOf(T, R, R, R);
+        EphemeronHeap heap = Heaps.of(T, R, R, R);
         heap.root(0, 0);
         heap.root(1, 3);
         heap.put(0, 1, 2);
@@ -177,7 +169,7 @@ public final class FinaliserTest {
     }
 
     private static void queuedTableKeepsEntriesOfKeptKeys() {
-        EphemeronHeap heap = heapOf(T, R, R, R, R, R, R);
+        EphemeronHeap heap = Heaps.of(T, R, R, R, R, R, R);
         heap.guard(0, 1, 0);
         heap.guard(1, 0, 0);
         heap.root(3, 3);
@@ -194,7 +186,7 @@ public final class FinaliserTest {
     }
 
     private static void liveTableLosesBeforeKept() {
-        EphemeronHeap heap = heapOf(R, T, R, R);
+        EphemeronHeap heap = Heaps.of(R, T, R, R);
         heap.root(0, 1);
         heap.put(1, 0, 2);
         heap.put(1, 2, 3);
@@ -207,7 +199,7 @@ public final class FinaliserTest {
     }
 
     private static EphemeronHeap acted(int kind, int action, int r) {
-        EphemeronHeap heap = heapOf(R, kind, R, R);
+        EphemeronHeap heap = Heaps.of(R, kind, R, R);
         heap.root(4, 0);
         heap.root(r, 0);
         if (kind == T) {
@@ -257,7 +249,7 @@ public final class FinaliserTest {
     }
 
     private static void actionRootField() {
-        EphemeronHeap heap = heapOf(R, R, R);
+        EphemeronHeap heap = Heaps.of(R, R, R);
         heap.guard(0, 2, 5);
         heap.set(0, 0, 1);
         heap.set(0, 1, 2);
@@ -267,7 +259,7 @@ public final class FinaliserTest {
         CHECK.equal("field", heap.get(0, 0), 1);
         CHECK.equal("freed", heap.collect(), 2);
         CHECK.equal("used", heap.used(), 2);
-        EphemeronHeap none = heapOf(R, R);
+        EphemeronHeap none = Heaps.of(R, R);
         none.root(5, 1);
         none.guard(0, 2, 5);
         none.collect();
@@ -287,7 +279,7 @@ public final class FinaliserTest {
     }
 
     private static void broughtBackAndLostAgain() {
-        EphemeronHeap heap = heapOf(R, R);
+        EphemeronHeap heap = Heaps.of(R, R);
         heap.guard(0, 1, 2);
         heap.set(0, 2, 1);
         heap.collect();
@@ -301,7 +293,7 @@ public final class FinaliserTest {
     }
 
     private static void wrongGuards() {
-        EphemeronHeap heap = heapOf(R, W);
+        EphemeronHeap heap = Heaps.of(R, W);
         for (int cell : new int[] {-1, -2, 2, 23, 24, 32, -32, Integer.MIN_VALUE, Integer.MAX_VALUE}) {
             CHECK.thrown("guard(" + cell + ", 0, 0)", NoSuchElementException.class, () -> heap.guard(cell, 0, 0));
         }
@@ -324,7 +316,7 @@ public final class FinaliserTest {
     }
 
     private static void orderOfGuardExceptions() {
-        EphemeronHeap heap = heapOf(R);
+        EphemeronHeap heap = Heaps.of(R);
         heap.guard(0, 0, 0);
         CHECK.refused("guard(1, 4, 6)", heap, NoSuchElementException.class, () -> heap.guard(1, 4, 6));
         CHECK.refused("guard(1, 0, 6)", heap, NoSuchElementException.class, () -> heap.guard(1, 0, 6));
@@ -335,7 +327,7 @@ public final class FinaliserTest {
     }
 
     private static void wrongRuns() {
-        EphemeronHeap heap = heapOf(R, R);
+        EphemeronHeap heap = Heaps.of(R, R);
         CHECK.refused("run without finalisers", heap, NoSuchElementException.class, heap::run);
         heap.guard(0, 1, 0);
         CHECK.refused("run while it waits", heap, NoSuchElementException.class, heap::run);

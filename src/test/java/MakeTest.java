@@ -3,7 +3,7 @@ import java.util.NoSuchElementException;
 /** Promises 2, 15, 17 and 18: make, used, serial, collections; and kind (16) of things without a finaliser. */
 public final class MakeTest {
     private static final Check CHECK = new Check();
-    private static final int ALL = (1 << 24) - 1;
+    private static final int ALL = Heaps.ALL;
 
     public static void main(String[] args) {
         leastFreeCell();
@@ -18,19 +18,6 @@ public final class MakeTest {
         collectionsAreCounted();
         wrongCells();
         CHECK.finish();
-    }
-
-    private static EphemeronHeap chain(int length) {
-        EphemeronHeap heap = new EphemeronHeap();
-        for (int i = 0; i < length; i++) {
-            int cell = heap.make(EphemeronHeap.RECORD);
-            if (i == 0) {
-                heap.root(0, cell);
-            } else {
-                heap.set(cell - 1, 2, cell);
-            }
-        }
-        return heap;
     }
 
     private static void leastFreeCell() {
@@ -68,7 +55,7 @@ public final class MakeTest {
 
     private static void wrongKind() {
         for (int kind : new int[] {-1, 3, 4, 24, Integer.MIN_VALUE, Integer.MAX_VALUE}) {
-            EphemeronHeap heap = chain(2);
+            EphemeronHeap heap = Heaps.chain(2);
             CHECK.refused("make(" + kind + ")", heap, IllegalArgumentException.class, () -> heap.make(kind));
             CHECK.equal("cell after make(" + kind + ")", heap.make(EphemeronHeap.RECORD), 2);
             CHECK.equal("serial after make(" + kind + ")", heap.serial(2), 3);
@@ -81,12 +68,12 @@ public final class MakeTest {
             heap.make(EphemeronHeap.RECORD);
         }
         CHECK.refused("make(3) in a full heap", heap, IllegalArgumentException.class, () -> heap.make(3));
-        EphemeronHeap live = chain(24);
+        EphemeronHeap live = Heaps.chain(24);
         CHECK.refused("make(3) in a full live heap", live, IllegalArgumentException.class, () -> live.make(3));
     }
 
     private static void fullHeapCollects() {
-        EphemeronHeap heap = chain(24);
+        EphemeronHeap heap = Heaps.chain(24);
         heap.set(9, 2, EphemeronHeap.NONE);
         CHECK.equal("make in a full heap", heap.make(EphemeronHeap.TABLE), 10);
         CHECK.equal("collected by make", heap.collections(), 1);
@@ -98,7 +85,7 @@ public final class MakeTest {
     }
 
     private static void fullHeapOfLiveThings() {
-        EphemeronHeap heap = chain(24);
+        EphemeronHeap heap = Heaps.chain(24);
         CHECK.thrown("make without room", IllegalStateException.class, () -> heap.make(EphemeronHeap.RECORD));
         CHECK.equal("but it has been collected", heap.collections(), 1);
         CHECK.equal("all is kept", heap.used(), ALL);
@@ -177,7 +164,7 @@ public final class MakeTest {
     }
 
     private static void wrongCells() {
-        EphemeronHeap heap = chain(3);
+        EphemeronHeap heap = Heaps.chain(3);
         for (int cell : new int[] {-1, -2, 3, 23, 24, 25, 32, 64, -32, Integer.MIN_VALUE, Integer.MAX_VALUE}) {
             CHECK.thrown("serial(" + cell + ")", NoSuchElementException.class, () -> heap.serial(cell));
             CHECK.thrown("kind(" + cell + ")", NoSuchElementException.class, () -> heap.kind(cell));

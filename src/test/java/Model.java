@@ -9,7 +9,7 @@ import java.util.NoSuchElementException;
 import java.util.Set;
 
 /** The document written down a second time, with objects and sets instead of cells and bits. */
-final class Model {
+final class Model implements Face {
     private static final class Thing {
         int kind;
         int serial;
@@ -26,7 +26,8 @@ final class Model {
     private int made;
     private int collections;
 
-    int make(int kind) {
+    @Override
+    public int make(int kind) {
         if (kind < 0 || kind > 2) {
             throw new IllegalArgumentException();
         }
@@ -46,18 +47,21 @@ final class Model {
         return cell;
     }
 
-    void set(int cell, int f, int t) {
+    @Override
+    public void set(int cell, int f, int t) {
         Thing thing = at(cell);
         Thing target = t == -1 ? null : at(t);
         thing.fields[field(thing, f)] = target;
     }
 
-    int get(int cell, int f) {
+    @Override
+    public int get(int cell, int f) {
         Thing thing = at(cell);
         return cellOrNone(thing.fields[field(thing, f)]);
     }
 
-    boolean put(int cell, int key, int value) {
+    @Override
+    public boolean put(int cell, int key, int value) {
         Thing table = at(cell);
         Thing k = at(key);
         Thing v = at(value);
@@ -68,19 +72,22 @@ final class Model {
         return entries.put(k, v) == null;
     }
 
-    int find(int cell, int key) {
+    @Override
+    public int find(int cell, int key) {
         Thing table = at(cell);
         Thing k = at(key);
         return cellOrNone(entries(table).get(k));
     }
 
-    boolean remove(int cell, int key) {
+    @Override
+    public boolean remove(int cell, int key) {
         Thing table = at(cell);
         Thing k = at(key);
         return entries(table).remove(k) != null;
     }
 
-    int key(int cell, int i) {
+    @Override
+    public int key(int cell, int i) {
         List<Thing> keys = new ArrayList<>(entries(at(cell)).keySet());
         if (i < 0 || i >= keys.size()) {
             throw new IndexOutOfBoundsException();
@@ -88,17 +95,20 @@ final class Model {
         return cellOf(keys.get(i));
     }
 
-    void root(int r, int cell) {
+    @Override
+    public void root(int r, int cell) {
         requireRoot(r);
         roots[r] = cell == -1 ? null : at(cell);
     }
 
-    int rootAt(int r) {
+    @Override
+    public int rootAt(int r) {
         requireRoot(r);
         return cellOrNone(roots[r]);
     }
 
-    void guard(int cell, int action, int r) {
+    @Override
+    public void guard(int cell, int action, int r) {
         Thing thing = at(cell);
         if (action < 0 || action > 3) {
             throw new IllegalArgumentException();
@@ -112,7 +122,8 @@ final class Model {
         thing.root = r;
     }
 
-    int collect() {
+    @Override
+    public int collect() {
         collections++;
         Set<Thing> live = new LinkedHashSet<>();
         for (Thing thing : roots) {
@@ -140,7 +151,8 @@ final class Model {
         return freed;
     }
 
-    int run() {
+    @Override
+    public int run() {
         if (queue.isEmpty()) {
             throw new NoSuchElementException();
         }
@@ -157,11 +169,13 @@ final class Model {
         return cellOf(thing);
     }
 
-    int queued() {
+    @Override
+    public int queued() {
         return queue.size();
     }
 
-    int used() {
+    @Override
+    public int used() {
         int used = 0;
         for (int cell = 0; cell < 24; cell++) {
             used += cells[cell] == null ? 0 : 1 << cell;
@@ -169,15 +183,18 @@ final class Model {
         return used;
     }
 
-    int kind(int cell) {
+    @Override
+    public int kind(int cell) {
         return at(cell).kind + 4 * at(cell).state;
     }
 
-    int serial(int cell) {
+    @Override
+    public int serial(int cell) {
         return at(cell).serial;
     }
 
-    int collections() {
+    @Override
+    public int collections() {
         return collections;
     }
 

@@ -4,6 +4,10 @@ final class Snapshot {
     }
 
     static String of(EphemeronHeap heap) {
+        return of(new HeapFace(heap));
+    }
+
+    static String of(Face heap) {
         StringBuilder text = new StringBuilder();
         text.append("collections ").append(heap.collections()).append(" queued ").append(heap.queued());
         text.append(" roots");
@@ -19,7 +23,7 @@ final class Snapshot {
         return text.toString();
     }
 
-    private static String thing(EphemeronHeap heap, int cell) {
+    private static String thing(Face heap, int cell) {
         int kind = heap.kind(cell);
         StringBuilder text = new StringBuilder();
         text.append("kind ").append(kind).append(" serial ").append(heap.serial(cell));
@@ -36,6 +40,10 @@ final class Snapshot {
 
     /** The entries of a table in their order, as "key=value key=value". */
     static String entries(EphemeronHeap heap, int cell) {
+        return entries(new HeapFace(heap), cell);
+    }
+
+    private static String entries(Face heap, int cell) {
         StringBuilder text = new StringBuilder();
         for (int i = 0; i < 5; i++) {
             int key;
